@@ -368,6 +368,8 @@ public final class EarthBanks {
         final int[] grains = new int[ZONES];
         int lakeLevel = 0;
         private final int[] leaving = new int[CELLS];
+        // By places: the LEAD of EARTH, and 0 where there is none, so that no water passes there.
+        private final int[] passing = new int[CELLS];
 
         Slice() {
             makeBlank();
@@ -393,7 +395,8 @@ public final class EarthBanks {
         }
 
         boolean isAir(int place) {
-            return !isZone(zones[place]);
+            int zone = zones[place];
+            return zone < 0 || zone >= ZONES;
         }
 
         boolean isEarth(int place) {
@@ -402,10 +405,6 @@ public final class EarthBanks {
 
         int holdAt(int place) {
             return isAir(place) ? 0 : holds[zones[place]];
-        }
-
-        private int leadAt(int place) {
-            return isAir(place) ? 0 : leads[zones[place]];
         }
 
         private int grainAt(int place) {
@@ -460,15 +459,22 @@ public final class EarthBanks {
         }
 
         void runSweeps(int n) {
+            notePassing();
             for (int i = 0; i < n; i++) {
                 fixEnds();
                 levelOthers();
             }
         }
 
+        private void notePassing() {
+            for (int place = 0; place < CELLS; place++) {
+                passing[place] = isEarth(place) ? leads[zones[place]] : 0;
+            }
+        }
+
         private void fixEnds() {
             for (int place = 0; place < CELLS; place++) {
-                if (!isEarth(place)) continue;
+                if (passing[place] == 0) continue;
                 if (isAtLake(place)) heads[place] = HEAD_OF_STEP * lakeLevel;
                 if (isAtFoot(place)) heads[place] = 0;
             }
@@ -476,7 +482,7 @@ public final class EarthBanks {
 
         private void levelOthers() {
             for (int place = 0; place < CELLS; place++) {
-                if (!isEarth(place) || isAtLake(place) || isAtFoot(place)) continue;
+                if (passing[place] == 0 || isAtLake(place) || isAtFoot(place)) continue;
                 int leadsAround = leadsAround(place);
                 if (leadsAround > 0) heads[place] = flowInto(place) / leadsAround;
             }
@@ -494,7 +500,7 @@ public final class EarthBanks {
             int sum = 0;
             for (int side = 0; side < STEP_X.length; side++) {
                 int other = neighbour(place, side);
-                if (other != NONE && isEarth(other)) sum += leadBetween(place, other);
+                if (other != NONE) sum += Math.min(passing[place], passing[other]);
             }
             return sum;
         }
@@ -503,24 +509,21 @@ public final class EarthBanks {
             int sum = 0;
             for (int side = 0; side < STEP_X.length; side++) {
                 int other = neighbour(place, side);
-                if (other != NONE && isEarth(other)) sum += leadBetween(place, other) * heads[other];
+                if (other != NONE) sum += Math.min(passing[place], passing[other]) * heads[other];
             }
             return sum;
-        }
-
-        private int leadBetween(int place, int other) {
-            return Math.min(leadAt(place), leadAt(other));
         }
 
         private static int neighbour(int place, int side) {
             int x = place % COLUMNS + STEP_X[side];
             int y = place / COLUMNS + STEP_Y[side];
-            return isCell(x, y) ? placeOf(x, y) : NONE;
+            if (x < 0 || x >= COLUMNS || y < 0 || y >= ROWS) return NONE;
+            return COLUMNS * y + x;
         }
 
         int seepage() {
-            int foot = COLUMNS - 1;
-            return isEarth(foot) ? flowInto(foot) / 1000 : 0;
+            notePassing();
+            return flowInto(COLUMNS - 1) / 1000;
         }
 
         /** All that is LOOSE goes at once: what goes is told ahead of any going. */
@@ -615,15 +618,11 @@ public final class EarthBanks {
             for (int items = 0; items < ITEMS; items++) {
                 takeToken();
                 if (sort == END) return NO_FAULT;
-                if (!readItem(slice)) return first;
+                boolean stands = isWord("zone") ? readZone(slice) : isWord("row") && readRow(slice);
+                if (!stands) return first;
             }
             takeToken();
             return sort == END ? NO_FAULT : first;
-        }
-
-        private boolean readItem(Slice slice) {
-            if (isWord("zone")) return readZone(slice);
-            return isWord("row") && readRow(slice);
         }
 
         private boolean readZone(Slice slice) {
@@ -710,11 +709,11 @@ public final class EarthBanks {
         }
 
         private static boolean isWordSign(int sign) {
-            return within(sign, 'a', 'z') || sign == '.';
+            return sign >= 'a' && sign <= 'z' || sign == '.';
         }
 
         private static boolean isDigit(int sign) {
-            return within(sign, '0', '9');
+            return sign >= '0' && sign <= '9';
         }
     }
 
