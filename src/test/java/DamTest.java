@@ -72,6 +72,15 @@ public final class DamTest {
         Check.due("clear() again", banks.clear(), 0);
         Check.due("dam() behind clear()", Check.dam(banks, "row 1 aaaaaaaa;"), 8);
         Check.due("cell(0, 0, 0) behind clear()", banks.cell(0, 0, 0), EarthBanks.NONE);
+        // Bytes of an earlier text don't come to a shorter one.
+        String[] longer = {"row 00000000;", "row 0 aaaaaaaaaaaa;", "row 0 aaaaaaaa;"};
+        String[] shorter = {"row 0", "row 0 aaaaaaaa", "row 0 aaaaaaaa"};
+        for (int i = 0; i < longer.length; i++) {
+            Check.type(banks, longer[i]);
+            banks.clear();
+            Check.due("dam() of " + shorter[i], Check.dam(banks, shorter[i]), -10 - shorter[i].length());
+            banks.clear();
+        }
     }
 
     private static void fault(String text, int place) {
@@ -100,6 +109,8 @@ public final class DamTest {
         fault("row 0", 5);
         fault("zon", 0);
         fault("zonea 1 1 1;", 0);
+        fault("tone a 1 1 1;", 0);
+        fault("bow 0 aaaaaaaa;", 0);
         fault("7", 0);
         fault("  rows 0 aaaaaaaa;", 2);
         fault("zone ab 1 1 1;", 5);
@@ -175,6 +186,9 @@ public final class DamTest {
         banks.filter(7);
         banks.zone(5, 2, 77);
         Check.due("day()", banks.day(), 1);
+        // What was told as if leaves nothing in the next dam.
+        banks.highest();
+        Check.due("breach()", banks.breach(), 7);
         Check.due("dam() anew", Check.dam(banks, "row 0 aaaaaaaa;"), 8);
         Check.due("GONE anew", banks.count(1), 0);
         Check.due("WET anew", banks.count(2), 0);
@@ -261,6 +275,13 @@ public final class DamTest {
         Check.due("load(1, 0, 0)", banks.load(1, 0, 0), 20);
         Check.due("load(1, 0, 1)", banks.load(1, 0, 1), 11);
         Check.due("load(2, 0, 1)", banks.load(2, 0, 1), 8);
+        // PUSH 595 by 100 is 5, HOLD 60 by 10 is 6, both rounded down.
+        banks = Check.damOf("zone a 25 60 1;zone b 17 1 1;row 0 aab.....;");
+        banks.lake(1);
+        banks.sweep(1);
+        Check.due("cell(1, 0, 2)", banks.cell(1, 0, 2), 595);
+        Check.due("load(1, 1, 0)", banks.load(1, 1, 0), 15);
+        Check.due("load(4, 1, 0)", banks.load(4, 1, 0), 4);
         // A CELL that is GONE is not AIR.
         EarthBanks holed = Check.damOf("row 0 a.......;");
         holed.lake(1);

@@ -87,6 +87,15 @@ public final class GaugeTest {
         Check.due("HEADS stay", banks.cell(2, 1, 1), head);
         Check.due("LEAD stays", banks.zone(0, 0, 20), 20);
         Check.due("LEAD stays", banks.zone(1, 0, 5), 5);
+        // Without water all are 0 apart, whatever was told ahead: the first EARTH.
+        EarthBanks without = Check.damOf(DAM);
+        without.lake(3);
+        without.cause(0, 99);
+        without.cause(1, 99);
+        Check.due("next(1)", without.next(1), apart);
+        without.lake(0);
+        Check.due("next(0) without water", without.next(0), 0);
+        Check.due("next(1) without water", without.next(1), 0);
         // THE LAKE of now counts.
         banks.lake(0);
         banks.slack(999);

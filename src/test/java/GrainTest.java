@@ -55,10 +55,11 @@ public final class GrainTest {
         Check.due("day()", banks.day(), 1);
         Check.due("cell(2, 0, 3)", banks.cell(2, 0, 3), 1);
         // So does x 7, where no cell is at the right.
-        banks = Check.damOf("row 1 aaaaaaaa;");
-        banks.lake(6);
+        banks = Check.damOf("zone b 10 99 10;row 1 aaaaaaaa;row 2 bb......;");
+        banks.lake(4);
         banks.sweep(100);
-        Check.due("day()", banks.day(), 1);
+        Check.due("day()", banks.day(), 2);
+        Check.due("cell(1, 2, 3)", banks.cell(1, 2, 3), 1);
         Check.due("cell(7, 1, 3)", banks.cell(7, 1, 3), 1);
     }
 
@@ -80,6 +81,13 @@ public final class GrainTest {
         banks.sweep(100);
         Check.due("day() under coarse EARTH", banks.day(), 1);
         Check.due("cell(2, 0, 3)", banks.cell(2, 0, 3), 1);
+        // At either side.
+        banks = Check.damOf("zone a 10 1 1;zone b 10 99 99;row 0 aaabaaaa;");
+        banks.lake(1);
+        banks.sweep(100);
+        Check.due("day() beside coarse EARTH", banks.day(), 2);
+        Check.due("cell(2, 0, 3)", banks.cell(2, 0, 3), 1);
+        Check.due("cell(4, 0, 3)", banks.cell(4, 0, 3), 1);
         banks = Check.damOf("zone a 10 99 1;zone b 10 1 99;row 0 bbbbbbba;");
         banks.lake(1);
         banks.sweep(100);

@@ -90,6 +90,10 @@ public final class SlideTest {
         least(banks, 562, 0, 0, 0, 0, 0, 0, 0, 0, 0);
         banks.zone(0, 1, 11);
         least(banks, 575, 0, 0, 0, 0, 0, 0, 0, 0, 0);
+        // HOLD 1 is 0 when WET, and bears a WAY all the same.
+        banks.zone(0, 1, 1);
+        least(banks, 12, 0, 0, 0, 0, 0, 0, 0, 0, 0);
+        Check.due("ways(10000)", banks.ways(10000), 44);
         // What stands above and is WET counts twice: all but the foot WET.
         banks = Check.damOf("zone a 10 10 1;row 1 aaaaaaaa;row 2 aaaaaaaa;");
         banks.lake(6);

@@ -117,6 +117,15 @@ public final class WaterTest {
         Check.due("seep()", banks.seep(), due);
         banks.zone(0, 0, 60);
         Check.due("seep() by another LEAD", banks.seep(), (60 * banks.cell(6, 0, 1) + 50 * banks.cell(7, 1, 1)) / 1000);
+        // 43 times 93 is 3999; 81 times 321 is 26001.
+        banks = Check.damOf("row 0 aaaaaaaa;");
+        banks.lake(6);
+        banks.sweep(1);
+        banks.zone(0, 0, 43);
+        Check.due("seep() of 3999", banks.seep(), 3);
+        banks.sweep(2);
+        banks.zone(0, 0, 81);
+        Check.due("seep() of 26001", banks.seep(), 26);
         banks = Check.damOf("row 0 aaaaaaa.;row 1 aaaaaaaa;");
         banks.lake(6);
         banks.sweep(100);
@@ -132,6 +141,13 @@ public final class WaterTest {
         Check.due("dry() again", banks.dry(), 0);
         Check.due("count(2)", banks.count(2), 0);
         Check.due("THE LAKE stays", banks.count(6), 1);
+        // A HEAD of 1 is above 0: at (6, 0) and (7, 1).
+        banks = Check.damOf("row 0 aaaaaaaa;row 1 aaaaaaaa;");
+        banks.lake(1);
+        banks.sweep(1);
+        Check.due("cell(6, 0, 1)", banks.cell(6, 0, 1), 1);
+        Check.due("cell(7, 1, 1)", banks.cell(7, 1, 1), 1);
+        Check.due("dry() of two rows", banks.dry(), 15);
         // HEADS of what is GONE are HEADS too.
         banks = Check.damOf("row 0 a.......;");
         banks.lake(1);
