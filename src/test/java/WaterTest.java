@@ -23,6 +23,9 @@ public final class WaterTest {
         Check.due("lake(3)", banks.lake(3), 6);
         Check.due("lake(0)", banks.lake(0), 3);
         Check.due("count(6)", banks.count(6), 0);
+        banks.lake(5);
+        Check.due("dam()", Check.dam(banks, "row 0 aaaaaaaa;"), 8);
+        Check.due("count(6) behind dam()", banks.count(6), 5);
     }
 
     private static void sweepOfARow() {
@@ -153,6 +156,9 @@ public final class WaterTest {
         banks.lake(1);
         banks.sweep(1);
         Check.due("day()", banks.day(), 1);
+        banks.lake(3);
+        banks.sweep(1);
+        Check.due("HEAD of what is GONE at THE LAKE", banks.cell(0, 0, 1), 1000);
         Check.due("dry() of what is GONE", banks.dry(), 1);
         Check.due("cell(0, 0, 1)", banks.cell(0, 0, 1), 0);
         Check.due("GONE stays", banks.count(1), 1);
