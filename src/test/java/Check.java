@@ -22,7 +22,8 @@ final class Check {
         sentence = "\"" + words + "\": ";
     }
 
-    private static String document() {
+    /** All of it, with one blank wherever there are blanks or line ends. */
+    static String document() {
         if (document != null) return document;
         try {
             document = Files.readString(DOCUMENT).replaceAll("\\s+", " ");

@@ -2,12 +2,14 @@
 public final class EdgesOfCellsTest {
     public static void main(String[] args) {
         aNewObject();
+        airOrAZone();
         cornersOfTheSlice();
         cellsBeyondTheSlice();
         whatOfACell();
         whatIsGone();
         pushIsZeroAtLeast();
         zones();
+        kindsOverOneAnother();
         loadOfParts();
         loadOfCells();
         loadOfDrainedAndCarried();
@@ -32,6 +34,14 @@ public final class EdgesOfCellsTest {
         run.due(0, "cheapest", 9999, 0).due(0, "cheapest", 9999, 1).due(2000, "best", 0).due(8, "best", 1);
         run.due(Run.STATE, "back", 0).due(Run.STATE, "back", 1);
         for (int i = 0; i < 8; i++) run.due(0, "ebb", i);
+    }
+
+    private static void airOrAZone() {
+        Check.says("each is AIR (at first), or of a ZONE a .. f (0 .. 5).");
+        Run run = Run.ofDam("row 0 abcdef..;row 5 ..fedcba;").due(12, "count", 0);
+        for (int x = 0; x < 8; x++) {
+            run.due(x < 6 ? x : Run.NONE, "cell", x, 0, 0).due(x < 2 ? Run.NONE : 7 - x, "cell", x, 5, 0).due(Run.NONE, "cell", x, 1, 0);
+        }
     }
 
     private static void cornersOfTheSlice() {
@@ -65,7 +75,7 @@ public final class EdgesOfCellsTest {
         Run run = Run.ofDam("row 1 f.......;").does("lake", 6).does("sweep", 1);
         run.due(5, "cell", 0, 1, 0).due(6000, "cell", 0, 1, 1).due(5000, "cell", 0, 1, 2).due(0, "cell", 0, 1, 3);
         run.due(Run.BAD, "cell", 0, 1, -1).due(Run.BAD, "cell", 0, 1, 4);
-        Check.says("STATE: it is AIR (of 1 to 3).");
+        Check.says("BAD; STATE: it is AIR (of 1 to 3).");
         run.due(Run.NONE, "cell", 1, 1, 0);
         for (int what = 1; what < 4; what++) run.due(Run.STATE, "cell", 1, 1, what);
         Check.says("Refused, and nothing changes, the first of these: BAD");
@@ -113,6 +123,18 @@ public final class EdgesOfCellsTest {
         run.due(Run.BAD, "zone", -1, 0, 7).due(Run.BAD, "zone", 6, 0, 7).due(Run.BAD, "zone", 0, -1, 7).due(Run.BAD, "zone", 0, 3, 7);
         run.due(Run.BAD, "zone", 5, 3, 7).due(Run.BAD, "zone", 1, -1, 7).due(Run.BAD, "zone", -1, 3, 7).due(Run.BAD, "zone", 6, -1, 100);
         for (int z = 0; z < 6; z++) for (int what = 0; what < 3; what++) run.due(50, "zone", z, what, 50);
+    }
+
+    private static void kindsOverOneAnother() {
+        Check.says("0 PART; 1 CELL, 4 CRACK (each under PART); 2 DRAINED, 3 CARRIED (each under CELL).");
+        // PUSH 1000: it counts for what is under CELL, and not for PART nor CRACK.
+        Run run = Run.ofDam("row 1 a.......;").does("lake", 2).does("sweep", 1);
+        run.due(11, "load", 0, 0, 1).due(21, "load", 1, 0, 1).due(14, "load", 2, 0, 1).due(10, "load", 3, 0, 1).due(10, "load", 4, 0, 1);
+        Check.says("\"up\" is what the KIND above does");
+        // THE TRACE tells which were asked: all above it, each once.
+        run.due(1 + 11 + 111 + 1011 + 10001, "trace");
+        Check.says("LOAD of a CELL that is not AIR");
+        run.due(1, "day").due(21, "load", 1, 0, 1).due(Run.STATE, "load", 1, 1, 1);
     }
 
     private static void loadOfParts() {
@@ -180,6 +202,7 @@ public final class EdgesOfCellsTest {
                 run.does("load", kind, round, 0).due(all, "trace").due(all, "trace");
             }
         }
+        Check.says("`long trace()`: THE TRACE.");
         // Nothing but load() comes to it, and nothing takes of it.
         run.due(Run.BAD, "load", 5, 0, 0).due(Run.STATE, "load", 0, 0, 1).does("sweep", 3).does("day").does("keep", 0).does("back", 0);
         run.does("clear").does("dam").due(all, "trace");

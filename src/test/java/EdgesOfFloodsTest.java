@@ -4,6 +4,7 @@ public final class EdgesOfFloodsTest {
 
     public static void main(String[] args) {
         pool();
+        whatThePoolBeginsWith();
         whichFloods();
         hours();
         waters();
@@ -41,8 +42,15 @@ public final class EdgesOfFloodsTest {
             for (int v : new int[] {Integer.MIN_VALUE, Integer.MAX_VALUE, 65536, -65536 + 5}) run.due(Run.BAD, "pool", what, v);
         }
         for (int what = 0; what < 6; what++) run.due(100 + what, "pool", what, 100 + what);
+        Check.says("Of THE POOL: 0 GATE, 1 CREST, 2 SPILL, 3 TOP, 4 LIMIT, 5 W 0 becomes v: what it was. BAD.");
         for (int what : new int[] {-1, 6, 256, Integer.MIN_VALUE, Integer.MAX_VALUE}) run.due(Run.BAD, "pool", what, 7);
         for (int what = 0; what < 6; what++) run.due(100 + what, "pool", what, 7);
+    }
+
+    private static void whatThePoolBeginsWith() {
+        Check.says("THE POOL begins with W 0. (0 .. 9999; 0 at first.)");
+        Run run = new Run().does("pool", CREST, 9999).due(1, "flood", 0, 7).due(0, "route", 1, 9999, 0).due(7, "route", 0, 9999, 0);
+        run.due(0, "pool", FIRST, 9999).due(9999, "route", 1, 9999, 0).does("pool", GATE, 0).does("pool", SPILL, 0).due(10006, "route", 0, 9999, 0);
     }
 
     private static void whichFloods() {
@@ -131,7 +139,7 @@ public final class EdgesOfFloodsTest {
     }
 
     private static void aboveTheCrest() {
-        Check.says("of what is above CREST the half, rounded up");
+        Check.says("then the spillway: of what is above CREST the half, rounded up");
         int[][] rows = {{999, 0}, {1000, 0}, {1001, 1}, {1002, 1}, {1003, 2}, {1004, 2}, {1005, 3}};
         for (int[] row : rows) route(hour(row[0]), 0, 9999, row[0] - row[1], 0, row[1], 1, row[1]);
         // Behind the gate: 1050 is 1000 then, 1051 is 1001.

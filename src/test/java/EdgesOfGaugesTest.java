@@ -50,6 +50,7 @@ public final class EdgesOfGaugesTest {
         Check.says("SLACK (0 .. 999; 100 at first)");
         Run run = new Run().due(Run.BAD, "slack", -1).due(Run.BAD, "slack", 1000).due(100, "slack", 0).due(Run.BAD, "slack", 1000).due(0, "slack", 999);
         for (int v : new int[] {-1, 1000, 65536, Integer.MIN_VALUE, Integer.MAX_VALUE}) run.due(Run.BAD, "slack", v);
+        Check.says("SLACK becomes v: what it was. BAD.");
         run.due(999, "slack", 100).due(100, "slack", 100);
     }
 
@@ -125,7 +126,7 @@ public final class EdgesOfGaugesTest {
     }
 
     private static void fortySweeps() {
-        Check.says("by HEADS that are 0, then 40 SWEEPS at THE LAKE with that LEAD");
+        Check.says("FITS a CAUSE: by HEADS that are 0, then 40 SWEEPS at THE LAKE with that LEAD");
         // HEAD of (7, 1) by 39, 40, 41 SWEEPS at LAKE 2: 1687, 1702, 1716; by 40 at LAKE 3 2557.
         int[][] rows = {{1687, 0}, {1702, 1}, {1716, 0}, {2557, 0}, {0, 0}};
         for (int[] row : rows) {
@@ -164,6 +165,11 @@ public final class EdgesOfGaugesTest {
             for (int lead : leads) run.does("cause", 0, lead);
             run.due(7, "fits").due(1, "next", 0).due(headBy(99) - headBy(1), "next", 1);
         }
+        // Without water all are 0 apart, whatever was told ahead.
+        Run dry = Run.ofDam("row 0 abbbbbbb;").does("lake", 1).does("cause", 0, 1).does("cause", 0, 99).due(headBy(99) - headBy(1), "next", 1);
+        dry.does("lake", 0).due(0, "next", 0).due(0, "next", 1);
+        // Two FIT, but there is no EARTH to be the next.
+        new Run().does("cause", 0, 1).does("cause", 0, 2).due(3, "fits").due(Run.NONE, "next", 0).due(Run.NONE, "next", 1);
         // What is GONE is no EARTH: (0, 1) goes, so the next one is the first.
         Run run = Run.ofDam("zone b 10 99 10;row 1 a.......;row 2 .....b..;").does("lake", 2).does("sweep", 1).does("cause", 0, 1).does("cause", 0, 2);
         run.due(8, "next", 0).due(1, "day").due(21, "next", 0).due(0, "next", 1);

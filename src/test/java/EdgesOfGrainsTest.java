@@ -28,6 +28,7 @@ public final class EdgesOfGrainsTest {
             was = v;
         }
         for (int v : new int[] {0, -1, 258, Integer.MIN_VALUE, Integer.MAX_VALUE}) run.due(Run.BAD, "filter", v);
+        Check.says("F becomes v: what it was. BAD.");
         run.due(9, "filter", 2).due(2, "filter", 2);
     }
 
@@ -38,7 +39,7 @@ public final class EdgesOfGrainsTest {
     }
 
     private static void pushIsTwentyTimesHold() {
-        Check.says("its PUSH is 20 times its HOLD at least");
+        Check.says("its PUSH is 20 times its HOLD at least, and it is OPEN");
         open(98, 2).due(980, "cell", 1, 0, 2).does("zone", 1, 1, 50).due(0, "day").does("zone", 1, 1, 49).due(1, "day").due(1, "cell", 1, 0, 3);
         open(47, 1).due(979, "cell", 1, 0, 2).does("zone", 1, 1, 49).due(0, "day").does("zone", 1, 1, 48).due(1, "day").due(1, "cell", 1, 0, 3);
         // The least HOLD: PUSH 20 goes, 19 stays, and so does 0.
@@ -124,7 +125,7 @@ public final class EdgesOfGrainsTest {
     }
 
     private static void allAtOnce() {
-        Check.says("on a DAY all EARTH goes at once that is LOOSE");
+        Check.says("GONE by days: on a DAY all EARTH goes at once that is LOOSE");
         // Each day one more of the row: what goes today opens what is beside it for tomorrow alone.
         Run run = Run.ofDam("row 1 aaaaaaaa;").does("lake", 6).does("sweep", 100);
         for (int day = 1; day <= 8; day++) run.due(1, "day").due(day, "count", 1).due(8 - day, "count", 0).due(1, "cell", 8 - day, 1, 3);
@@ -154,6 +155,7 @@ public final class EdgesOfGrainsTest {
     private static void firstDayOfBreach() {
         Check.says("BREACH: the first DAY on which EARTH with x 0 goes (1 ..)");
         Run.ofDam("row 1 a.......;").does("lake", 6).does("sweep", 1).due(1, "breach").due(1, "breach");
+        Check.says("BREACH as of now; NONE.");
         Run run = Run.ofDam("row 1 aaaaaaaa;").does("lake", 6).does("sweep", 100);
         for (int day = 8; day >= 1; day--) run.due(day, "breach").due(1, "day");
         run.due(Run.NONE, "breach");
@@ -198,8 +200,9 @@ public final class EdgesOfGrainsTest {
     }
 
     private static void highest() {
-        Check.says("HIGHEST: the greatest LAKE 0 .. 6 without a BREACH");
+        Check.says("HIGHEST; NONE.");
         new Run().due(6, "highest");
+        Check.says("HIGHEST: the greatest LAKE 0 .. 6 without a BREACH");
         Run.ofDam("zone a 10 99 10;row 0 aaaaaaaa;").due(6, "highest");
         // AIR at its right, HEAD 1000 times LAKE: 20 times HOLD tells where it ends.
         int[][] rows = {{1, 0}, {50, 0}, {51, 1}, {99, 1}};

@@ -100,6 +100,10 @@ public final class EdgesOfImagesTest {
             run.due(Run.BAD, "count", what);
             empty.due(Run.BAD, "count", what);
         }
+        // At the slice's corners: (0, 0) and (7, 5).
+        Run.ofDam("row 0 a.......;").due(1, "count", 0).does("lake", 1).due(1, "sweep", 1).due(1, "count", 2).due(1, "day").due(1, "count", 1);
+        run = Run.ofDam("zone a 99 99 10;zone b 99 1 10;row 5 aaaaaaab;").due(8, "count", 0).does("lake", 6).does("sweep", 100).due(8, "count", 2).due(1, "day");
+        run.due(1, "cell", 7, 5, 3).due(1, "count", 1).due(7, "count", 0).due(7, "count", 2);
         // GONE and EARTH are all that is not AIR; only EARTH is WET.
         run = Run.ofDam("row 1 a.......;row 2 a.......;row 5 a.......;").does("lake", 3).due(2, "sweep", 1).due(3, "count", 0).due(2, "day");
         run.due(1, "count", 0).due(2, "count", 1).due(0, "count", 2);

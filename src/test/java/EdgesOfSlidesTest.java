@@ -151,7 +151,7 @@ public final class EdgesOfSlidesTest {
     }
 
     private static void ofSeveralTheFirst() {
-        Check.says("of several the first by x where it begins, then by heights from there on.");
+        Check.says("LEAST: the least MARGIN of all WAYS; of several the first by x where it begins, then by heights from there on.");
         // From 6 on and from 7 on 1000 both.
         least(Run.ofDam("row 0 ......aa;row 1 ......aa;"), 1000, 6, 0, 0);
         // Heights 0 and 1 in column 6 have DRIVE 2 both.
@@ -163,7 +163,7 @@ public final class EdgesOfSlidesTest {
     }
 
     private static void numbersOfLeast() {
-        Check.says("its MARGIN (k = -1), the column where it begins (k = -2), its height in column k");
+        Check.says("LEAST: its MARGIN (k = -1), the column where it begins (k = -2), its height in column k");
         Run run = Run.ofDam("row 3 .....aaa;").due(9999, "least", -1).due(5, "least", -2).due(3, "least", 5).due(3, "least", 7);
         Check.says("NONE (also of a column ahead of its beginning). BAD.");
         for (int k = 0; k < 5; k++) run.due(Run.NONE, "least", k);

@@ -14,8 +14,10 @@ public final class EdgesOfTextTest {
         textIsFull();
         fullTextIsRead();
         textIsCleared();
+        bytesOfAnEarlierText();
         emptyText();
         items();
+        wordsOfItems();
         zoneNumbers();
         rowNumbers();
         letters();
@@ -97,6 +99,9 @@ public final class EdgesOfTextTest {
         Check.says("the text's length, if it ends too early");
         dam(-410, blanks(386) + "row 5 abcdef.a").due(400, "count", 7).due(0, "count", 0);
         dam(-410, "zone" + blanks(396));
+        for (String last : new String[] {"zone", "row", "row 5", "zone a 1 12", "zone a", "zone a 1 1 9"}) {
+            dam(-410, blanks(400 - last.length()) + last);
+        }
     }
 
     private static void textIsCleared() {
@@ -105,6 +110,21 @@ public final class EdgesOfTextTest {
         run.type(blanks(400)).due(400, "clear").due(0, "count", 7).due(0, "dam");
         run.type(blanks(400)).due(400, "count", 7).due(0, "dam").due(0, "clear");
         run.dam(-24, "row 1 aaaaaaaa").due(14, "clear").due(0, "clear").due(0, "dam");
+    }
+
+    private static void bytesOfAnEarlierText() {
+        Check.says("THE TEXT is empty");
+        // A shorter text ends where it ends, whatever bytes stood behind that place.
+        String[][] texts = {
+            {"row 00000000;", "row 0"}, {"row 0 aaaaaaaaaaaa;", "row 0 aaaaaaaa"}, {"row 0 aaaaaaaa;", "row 0 aaaaaaaa"}, {"zone a 1 1 1;", "zone a 1 1 1"},
+            {"zone a 1 1 11;", "zone a 1 1 1"}, {"zonezone", "zone"}, {"rowrow", "row"}, {"zone aa", "zone a"},
+        };
+        for (String[] pair : texts) {
+            Run run = new Run().type(pair[0]).due(pair[0].length(), "clear");
+            run.dam(-10 - pair[1].length(), pair[1]);
+        }
+        // So behind dam(), too.
+        Run.ofDam("zone a 1 1 1;row 0 aaaaaaaa;").dam(-22, "zone a 1 1 1").due(8, "count", 0);
     }
 
     private static void emptyText() {
@@ -141,6 +161,22 @@ public final class EdgesOfTextTest {
         fault(261, ZONE.repeat(19) + "row 5 aaaaaaaa");
     }
 
+    private static void wordsOfItems() {
+        Check.says("FAULT: the place of the first byte of the first TOKEN that can't stand there");
+        for (String item : new String[] {ZONE, ROW}) {
+            int end = item.indexOf(' ');
+            for (int at = 0; at < end; at++) {
+                for (char other : new char[] {(char) (item.charAt(at) - 1), (char) (item.charAt(at) + 1), '.', 'A'}) {
+                    fault(2, "  " + item.substring(0, at) + other + item.substring(at + 1));
+                }
+                fault(2, "  " + item.substring(0, at) + item.substring(at + 1));
+            }
+            fault(0, item.substring(0, end) + "s" + item.substring(end));
+            fault(0, "a" + item);
+            fault(0, item.substring(0, end) + item);
+        }
+    }
+
     private static void zoneNumbers() {
         Check.says("\"zone\" LETTER LEAD HOLD GRAIN ;");
         for (int trait = 0; trait < 3; trait++) {
@@ -166,7 +202,7 @@ public final class EdgesOfTextTest {
     }
 
     private static void rowNumbers() {
-        Check.says("\"row\" Y SIGNS ;");
+        Check.says("\"zone\" LETTER LEAD HOLD GRAIN ; or \"row\" Y SIGNS ;");
         for (int y = 0; y < 6; y++) {
             Run run = dam(8, "row " + y + " aaaaaaaa;");
             for (int other = 0; other < 6; other++) {
@@ -303,9 +339,13 @@ public final class EdgesOfTextTest {
         run.due(Run.NONE, "cell", 0, 2, 0);
         Check.says("(Read anew: all CELLS are AIR, all ZONES as at first, ahead of it; HEADS are 0; none is GONE.)");
         run = Run.ofDam("zone a 99 1 3;zone b 4 5 6;row 1 aaaaaaaa;").does("lake", 6).does("sweep", 100).due(1, "day");
+        // What was told as if leaves nothing behind, either.
+        run.does("highest").does("breach");
         run.dam(8, "row 1 abababab;").due(0, "count", 1).due(0, "count", 2).due(8, "count", 0);
         for (int x = 0; x < 8; x++) run.due(x % 2, "cell", x, 1, 0).due(0, "cell", x, 1, 1).due(0, "cell", x, 1, 3);
         for (int z = 0; z < 6; z++) for (int what = 0; what < 3; what++) run.due(10, "zone", z, what, 10);
         run.due(6, "count", 6).due(0, "dry");
+        // THE LAKE is not among it.
+        for (int lake = 0; lake <= 6; lake++) new Run().does("lake", lake).dam(8, ROW).due(lake, "count", 6).does("highest").dam(8, ROW).due(lake, "count", 6);
     }
 }

@@ -2,7 +2,9 @@
 public final class EdgesOfWaterTest {
     public static void main(String[] args) {
         lake();
+        headsAtFirst();
         howManySweeps();
+        inTheirOrder();
         yBelowTheLake();
         theFoot();
         noNeighboursBeyondTheEnds();
@@ -32,13 +34,32 @@ public final class EdgesOfWaterTest {
             run.due(was, "lake", v).due(v, "count", 6).due(Run.BAD, "lake", -1).due(Run.BAD, "lake", 7).due(v, "count", 6);
             was = v;
         }
+        Check.says("`int lake(int v)`: THE LAKE becomes v: what it was. BAD.");
         run.due(6, "lake", 0).due(0, "lake", 0);
         for (int v : new int[] {Integer.MIN_VALUE, Integer.MAX_VALUE, -250, 256, 262, 65536}) run.due(Run.BAD, "lake", v);
         run.due(0, "count", 6);
     }
 
+    private static void headsAtFirst() {
+        Check.says("HEADS (0 at first) are in thousandths.");
+        Run run = new Run();
+        for (int y = 0; y < 6; y++) run.type("row " + y + " aaaaaaaa;");
+        run.due(48, "dam").does("lake", 6);
+        // THE LAKE alone brings none: a SWEEP does.
+        for (int i = 0; i < 48; i++) run.due(0, "cell", i % 8, i / 8, 1);
+        run.due(0, "count", 2).due(0, "dry").does("sweep", 1).due(6000, "cell", 0, 0, 1).due(6000, "cell", 0, 5, 1);
+    }
+
+    private static void inTheirOrder() {
+        Check.says("Then all other EARTH, by y from 0 up, in a row by x from 0 up:");
+        // HEADS of this SWEEP from the left and from below, of the one before from the right and from above.
+        Run run = Run.ofDam("row 0 aaaaaaaa;row 1 aaaaaaaa;").does("lake", 2).due(8, "sweep", 1);
+        heads(run, 0, 2000, 666, 222, 74, 24, 8, 2, 0);
+        heads(run, 1, 2000, 888, 370, 148, 57, 21, 7, 3);
+    }
+
     private static void howManySweeps() {
-        Check.says("n SWEEPS (1 .. 100): how many CELLS are WET.");
+        Check.says("n SWEEPS (1 .. 100): how many CELLS are WET. BAD.");
         Run run = Run.ofDam("row 0 aaaaaaaa;").does("lake", 1);
         for (int n : new int[] {0, -1, 101, 102, 256, 257, Integer.MIN_VALUE, Integer.MAX_VALUE}) run.due(Run.BAD, "sweep", n);
         heads(run, 0, 0, 0, 0, 0, 0, 0, 0, 0);
@@ -61,7 +82,7 @@ public final class EdgesOfWaterTest {
     }
 
     private static void yBelowTheLake() {
-        Check.says("first EARTH with x 0 and y below THE LAKE has HEAD 1000 times THE LAKE");
+        Check.says("A SWEEP: first EARTH with x 0 and y below THE LAKE has HEAD 1000 times THE LAKE");
         for (int lake = 0; lake <= 6; lake++) {
             Run run = column().does("lake", lake).due(lake, "sweep", 1);
             for (int y = 0; y < 6; y++) {
@@ -79,7 +100,7 @@ public final class EdgesOfWaterTest {
     }
 
     private static void theFoot() {
-        Check.says("EARTH with x 7 and y 0 has HEAD 0");
+        Check.says("EARTH with x 7 and y 0 has HEAD 0.");
         Run run = Run.ofDam("row 0 aaaaaaaa;row 1 aaaaaaaa;").does("lake", 6).does("sweep", 100);
         run.due(0, "cell", 7, 0, 1).due(0, "cell", 7, 0, 2);
         Check.holds("(6, 0) is not held", run.call("cell", 6, 0, 1) > 0);
@@ -158,8 +179,9 @@ public final class EdgesOfWaterTest {
     }
 
     private static void seepWithoutEarth() {
-        Check.says("SEEP: over EARTH with x 7, y 0");
+        Check.says("`int seep()`: SEEP.");
         new Run().due(0, "seep");
+        Check.says("SEEP: over EARTH with x 7, y 0");
         Run.ofDam("row 0 aaaaaaa.;row 1 aaaaaaaa;").does("lake", 6).does("sweep", 100).due(0, "seep");
         // EARTH at the foot without neighbours; the next row's beginning is none.
         Run.ofDam("row 0 .......a;row 1 a.......;").does("lake", 6).does("sweep", 100).due(0, "seep");

@@ -15,6 +15,7 @@ public final class EdgesOfWorksTest {
         moreAheadOfHalving();
         columnOfABerm();
         bermsTogether();
+        waysOfSeveralColumns();
         drains();
         leastPrice();
         leastSet();
@@ -175,6 +176,39 @@ public final class EdgesOfWorksTest {
         cheapest(run, 100 * 793 / 9, 7992, 255);
         none(run, 100 * 793 / 9 + 1);
         cheapest(run, 100 * 694 / 9, 6993, 127);
+    }
+
+    private static void waysOfSeveralColumns() {
+        Check.says("CHEAPEST set by which LEAST is an AIM (0 .. 9999) at least");
+        // From 0 on: REST 80 by DRIVE 1, and no other WAY has a DRIVE. A BERM in any of its columns counts.
+        for (int x = 0; x < 8; x++) {
+            Run run = Run.ofDam("row 0 aaaaaaaa;row 1 a.......;").due(8000, "least", -1).due(0, "least", -2).does("work", BERM, x, 0, 10, 3);
+            cheapest(run, 8000, 0, 0);
+            cheapest(run, 8001, 3, 1);
+            cheapest(run, 9000, 3, 1);
+            none(run, 9001);
+        }
+        // A fall from 2 to 0: 3 above, times 3, REST 20.
+        Run run = Run.ofDam("row 0 ......aa;row 1 ......a.;row 2 ......a.;row 3 ......a.;row 4 ......a.;row 5 ......a.;").due(222, "least", -1).does("work", BERM, 7, 0, 10, 3);
+        cheapest(run, 222, 0, 0);
+        cheapest(run, 223, 3, 1);
+        cheapest(run, 333, 3, 1);
+        none(run, 334);
+        // As high as the one ahead: 3 and 3, one above in column 6.
+        run = Run.ofDam("row 3 ......aa;row 4 ......a.;").due(2000, "least", -1).does("work", BERM, 6, 0, 5, 3);
+        cheapest(run, 2000, 0, 0);
+        cheapest(run, 2500, 3, 1);
+        none(run, 2501);
+        // Higher than the one ahead is no WAY: from 6 at 2, which has one above it, none goes on at 3.
+        run = Run.ofDam("row 2 ......a.;row 3 ......aa;").due(9999, "least", -1);
+        for (int aim : new int[] {0, 1, 2, 100, 9999}) cheapest(run, aim, 0, 0);
+        // Two WAYS that need two WORKS: from 7 at 0 (1000), and from 5 on by 6 and 7 at 0.
+        run = Run.ofDam("zone b 1 1 1;row 0 .....bba;row 1 .....b.a;").due(600, "least", -1).due(5, "least", -2).does("work", BERM, 5, 0, 8, 3).does("work", BERM, 7, 0, 8, 4);
+        cheapest(run, 600, 0, 0);
+        cheapest(run, 1000, 3, 1);
+        cheapest(run, 1001, 7, 3);
+        cheapest(run, 1400, 7, 3);
+        none(run, 1401);
     }
 
     private static void drains() {
