@@ -769,6 +769,8 @@ public final class EarthBanks {
     /** WAYS through a slice with a set of WORKS. */
     private static final class Slides {
         private static final int NO_EARTH = -1;
+        // For a balance of no WAY at all: far above what a WAY's 100 times REST can come to.
+        private static final int NO_WAY = 1000000000;
 
         // By places: what a cell brings to REST, and what stands above it for DRIVE.
         private final int[] rests = new int[CELLS];
@@ -856,8 +858,8 @@ public final class EarthBanks {
                 for (int y = ROWS - 1; y >= 0; y--) {
                     int place = placeOf(x, y);
                     int behind = x == COLUMNS - 1 ? -marginAim * driveOf(x, y, 0) : leastBehind(x, y, marginAim);
-                    boolean none = rests[place] == NO_EARTH || behind == Integer.MAX_VALUE;
-                    balances[y] = none ? Integer.MAX_VALUE : behind + 100 * rests[place];
+                    boolean none = rests[place] == NO_EARTH || behind == NO_WAY;
+                    balances[y] = none ? NO_WAY : behind + 100 * rests[place];
                     if (balances[y] < 0) return false;
                 }
             }
@@ -865,9 +867,9 @@ public final class EarthBanks {
         }
 
         private int leastBehind(int x, int height, int marginAim) {
-            int least = Integer.MAX_VALUE;
+            int least = NO_WAY;
             for (int y = 0; y <= height; y++) {
-                if (balances[y] == Integer.MAX_VALUE) continue;
+                if (balances[y] == NO_WAY) continue;
                 least = Math.min(least, balances[y] - marginAim * driveOf(x, height, y));
             }
             return least;
@@ -944,6 +946,8 @@ public final class EarthBanks {
 
     /** GAUGES, CAUSES, and the HEADS by those that FIT. */
     private static final class Watch {
+        private static final int ABOVE_ALL_HEADS = HEAD_OF_STEP * (HIGHEST_LAKE + 1);
+
         private final int[] gaugePlaces = new int[LIST_SIZE];
         private final int[] gaugeReads = new int[LIST_SIZE];
         private final int[] causeZones = new int[LIST_SIZE];
@@ -973,7 +977,7 @@ public final class EarthBanks {
         /** CAUSES that FIT, as bits; their HEADS are noted for NEXT GAUGE. */
         int tryCauses(Slice slice, Slice trial) {
             int fitting = 0;
-            Arrays.fill(leastHeads, Integer.MAX_VALUE);
+            Arrays.fill(leastHeads, ABOVE_ALL_HEADS);
             Arrays.fill(greatestHeads, 0);
             for (int i = 0; i < causes; i++) {
                 trial.copy(slice);

@@ -48,6 +48,16 @@ public final class FaceTest {
             Check.due(told(method) + " is of objects", Modifier.isStatic(method.getModifiers()) ? 1 : 0, 0);
         }
         Check.due("missing " + expected, expected.size(), 0);
+        for (Class<?> nested : EarthBanks.class.getDeclaredClasses()) nestedNamesAreTheirOwn(nested, names);
+    }
+
+    private static void nestedNamesAreTheirOwn(Class<?> nested, Set<String> names) {
+        Check.holds(nested.getName() + " is static", Modifier.isStatic(nested.getModifiers()));
+        Check.holds(nested.getName() + " is not seen from outside", !Modifier.isPublic(nested.getModifiers()));
+        for (Method method : nested.getDeclaredMethods()) {
+            boolean bears = Modifier.isPrivate(method.getModifiers()) && names.contains(method.getName());
+            Check.holds(nested.getName() + "." + method.getName() + " bears no public name", !bears);
+        }
     }
 
     private static String told(Method method) {

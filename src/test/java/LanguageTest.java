@@ -19,6 +19,11 @@ public final class LanguageTest {
         "\\b(equals|hashCode|toString)\\s*\\(\\s*\\)\\s*\\{", "\\bprotected\\b", "while \\(true\\)", "for \\(;;",
     };
 
+    /** Rule 4: what the class may take of the library's own classes; functions alone, no constants of theirs. */
+    private static final String LIBRARY = "\\b(Integer|Long|Math|Arrays|System|String|List)\\.";
+    private static final String LISTED = "(Arrays\\.(copyOf|copyOfRange|fill)|System\\.arraycopy|List\\.of"
+        + "|(Integer|Long|Math)\\.(compare|max|min|abs|bitCount|floorDiv|floorMod|signum))\\(";
+
     public static void main(String[] args) throws IOException {
         String source = Files.readString(SOURCE);
         String code = source.replaceAll("(?s)/\\*.*?\\*/", "").replaceAll("//[^\n]*", "").replaceAll("\"[^\"]*\"", "\"\"");
@@ -26,6 +31,8 @@ public final class LanguageTest {
             Matcher matcher = Pattern.compile(form).matcher(code);
             Check.due("places with " + form, matcher.results().count(), 0);
         }
+        Matcher beyondList = Pattern.compile("(?!\\b" + LISTED + ")" + LIBRARY + "\\w+").matcher(code);
+        while (beyondList.find()) Check.due("places with " + beyondList.group() + ", which rule 4 does not list", 1, 0);
         Check.due("signs beyond 126", source.chars().filter(sign -> sign > 126).count(), 0);
         Matcher nested = Pattern.compile("(\\w+ )*class \\w+").matcher(code);
         int classes = 0;
